@@ -808,10 +808,12 @@ public final class ChairMigration {
             if (index == NONE) {
                 return NONE;
             }
-            int rust = chairs[index].rust;
-            removeAt(index);
+            Chair chair = chairs[index];
+            herdSizes.grow(chair.lawn, -1);
+            shiftToEnd(index);
+            chairCount--;
             scrapped++;
-            return rust;
+            return chair.rust;
         }
 
         private int setFolded(int id, boolean folded) {
@@ -869,15 +871,6 @@ public final class ChairMigration {
             herdSizes.grow(lawn, 1);
             shiftToEnd(index);
             moves++;
-        }
-
-        private void removeAt(int index) {
-            if (index < 0 || index >= chairCount) {
-                return;
-            }
-            herdSizes.grow(chairs[index].lawn, -1);
-            shiftToEnd(index);
-            chairCount--;
         }
 
         private void shiftToEnd(int index) {

@@ -234,6 +234,34 @@ public final class PromisesTest {
         }
     }
 
+    /** In some of these chains an improvement only follows from an improvement that is found later. */
+    private static void distancesInEveryChain() {
+        for (int number = 0; number < 46656; number++) {
+            int[] chain = new int[6];
+            int seen = 0;
+            for (int i = 0, rest = number; i < 6; i++, rest /= 6) {
+                chain[i] = rest % 6;
+                seen |= 1 << chain[i];
+            }
+            if (seen == 63) {
+                distancesInChain(chain);
+            }
+        }
+    }
+
+    private static void distancesInChain(int[] chain) {
+        ChairMigration x = new ChairMigration();
+        for (int i = 0; i < 5; i++) {
+            x.addPath(chain[i], chain[i + 1]);
+        }
+        due(true, x.isConsistent());
+        for (int i = 0; i < 6; i++) {
+            due(Math.abs(i - 2), x.distance(chain[2], chain[i]));
+            due(i, x.distanceByImprovement(chain[0], chain[i]));
+            due(chain[i], x.routeAt(chain[0], chain[5], i));
+        }
+    }
+
     private static void promise7() {
         ChairMigration x = after("p05;p01;p54;p13;p14;p42;p32");
         int[] route = {0, 1, 3, 2};
@@ -528,6 +556,10 @@ public final class PromisesTest {
         due(1, x.elderOf(0));
         x.oilChair(1);
         due(2, x.elderOf(0));
+        ChairMigration first = after("c09;c03;c09");
+        due(0, first.elderOf(0));
+        first.scrapChair(2);
+        due(0, first.elderOf(0));
         dueThrow(NO_ELEMENT, () -> x.elderOf(2));
         for (int no : NO_LAWNS) {
             dueThrow(NO_INDEX, () -> x.elderOf(no));
@@ -662,6 +694,10 @@ public final class PromisesTest {
         due(3, x.wouldCollapse(20));
         due(before, data(x));
         due(3, x.passDays(20));
+        run(x, "h3=0;c39;c39");
+        due(2, x.wouldCollapse(1));
+        due(2, x.passDays(1));
+        due(5, x.collapsedChairs());
         for (int days : new int[] {0, 21, -1, Integer.MIN_VALUE, Integer.MAX_VALUE}) {
             dueThrow(BAD_ARGUMENT, () -> x.wouldCollapse(days));
         }
@@ -727,6 +763,18 @@ public final class PromisesTest {
         x.fold(4);
         due(4, x.chairByRust(0));
         due(6, x.chairByRust(6));
+        x.addChair(3, 9);
+        due(7, x.chairByRust(1));
+        x.addChair(3, 0);
+        due(8, x.chairByRust(8));
+        x.scrapChair(4);
+        due(7, x.chairByRust(0));
+        due(8, x.chairByRust(7));
+        dueThrow(NO_ELEMENT, () -> x.chairByRust(8));
+        run(x, "c10;c20;c20;c21");
+        due(12, x.chairByRust(7));
+        due(11, x.chairByRust(11));
+        dueThrow(NO_ELEMENT, () -> x.chairByRust(12));
         dueThrow(NO_ELEMENT, () -> new ChairMigration().chairByRust(0));
     }
 
@@ -1105,6 +1153,7 @@ public final class PromisesTest {
         test("promise 3", PromisesTest::promise3);
         test("promise 4", PromisesTest::promise4);
         test("promises 5 and 6", PromisesTest::promises5And6);
+        test("promises 5 to 7, every chain", PromisesTest::distancesInEveryChain);
         test("promise 7", PromisesTest::promise7);
         test("promise 8", PromisesTest::promise8);
         test("promise 9", PromisesTest::promise9);
