@@ -560,6 +560,10 @@ public final class PromisesTest {
         due(0, first.elderOf(0));
         first.scrapChair(2);
         due(0, first.elderOf(0));
+        run(first, "c19;s3");
+        due(0, first.elderOf(0));
+        run(first, "o0;o0;c09;s4");
+        due(0, first.elderOf(0));
         dueThrow(NO_ELEMENT, () -> x.elderOf(2));
         for (int no : NO_LAWNS) {
             dueThrow(NO_INDEX, () -> x.elderOf(no));
@@ -783,6 +787,11 @@ public final class PromisesTest {
         int[] want = {1, 5, 0, 2, 4, 3};
         for (int rank = 0; rank < 6; rank++) {
             due(want[rank], x.lawnByShade(rank));
+        }
+        run(x, "c30;h4=0;h2=0");
+        int[] later = {1, 5, 0, 2, 3, 4};
+        for (int rank = 0; rank < 6; rank++) {
+            due(later[rank], x.lawnByShade(rank));
         }
         for (int rank : new int[] {-1, 6, Integer.MIN_VALUE, Integer.MAX_VALUE}) {
             dueThrow(NO_ELEMENT, () -> x.lawnByShade(rank));
