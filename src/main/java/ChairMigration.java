@@ -42,7 +42,7 @@ public final class ChairMigration {
     private final Garden snapshot = new Garden();
     private final History history = new History();
     private final Improvement improvement = new Improvement();
-    private final Judge judge = new Judge(garden);
+    private final Judge judge = new Judge();
     private final CommandInput input = new CommandInput();
     private final StringBuilder output = new StringBuilder();
     private boolean snapshotSaved;
@@ -451,7 +451,7 @@ public final class ChairMigration {
     }
 
     private int change(char deed, int first, int second) {
-        int verdict = judge.examine(deed, first, second);
+        int verdict = judge.examine(garden, deed, first, second);
         if (verdict == Judge.UNKNOWN) {
             throw new IndexOutOfBoundsException("no such lawn or chair");
         }
@@ -472,7 +472,7 @@ public final class ChairMigration {
             char deed = input.deedOf(number);
             int first = input.firstOf(number);
             int second = input.secondOf(number);
-            if (judge.examine(deed, first, second) != Judge.ALLOWED) {
+            if (judge.examine(garden, deed, first, second) != Judge.ALLOWED) {
                 return number;
             }
             garden.perform(deed, first, second);
@@ -1155,50 +1155,45 @@ public final class ChairMigration {
         static final int UNFIT = 2;
         static final int REJECTED = 3;
 
-        private final Garden garden;
         private int verdict;
         private int reason;
         private int detail;
 
-        Judge(Garden garden) {
-            this.garden = garden;
-        }
-
-        int examine(char deed, int first, int second) {
+        int examine(Garden garden, char deed, int first, int second) {
             verdict = ALLOWED;
             switch (deed) {
                 case Deed.ADD_PATH:
-                    examineNewPath(first, second);
+                    examineNewPath(garden, first, second);
                     break;
                 case Deed.REMOVE_PATH:
-                    examineOldPath(first, second);
+                    examineOldPath(garden, first, second);
                     break;
                 case Deed.SET_SHADE:
                     examineShade(first, second);
                     break;
                 case Deed.ADD_CHAIR:
-                    examineNewChair(first, second);
+                    examineNewChair(garden, first, second);
                     break;
                 case Deed.SCRAP:
-                    examineScrapping(first);
+                    examineScrapping(garden, first);
                     break;
                 case Deed.FOLD:
-                    examineFolding(first);
+                    examineFolding(garden, first);
                     break;
                 case Deed.UNFOLD:
-                    examineUnfolding(first);
+                    examineUnfolding(garden, first);
                     break;
                 case Deed.OIL:
-                    examineOiling(first);
+                    examineOiling(garden, first);
                     break;
                 case Deed.MOVE:
-                    examineMove(first, second);
+                    examineMove(garden, first, second);
                     break;
                 case Deed.MIGRATE:
-                    examineMigration(first, second);
+                    examineMigration(garden, first, second);
                     break;
                 case Deed.ADD_OIL:
-                    examineNewOil(first);
+                    examineNewOil(garden, first);
                     break;
                 case Deed.PASS_DAYS:
                     examineDays(first);
@@ -1216,11 +1211,11 @@ public final class ChairMigration {
             detail = what;
         }
 
-        private boolean isFull(int lawn) {
+        private static boolean isFull(Garden garden, int lawn) {
             return garden.herdSizes.at(lawn) >= PLACES_OF_A_LAWN;
         }
 
-        private void examineNewPath(int first, int second) {
+        private void examineNewPath(Garden garden, int first, int second) {
             if (!isLawn(first) || !isLawn(second)) {
                 verdict = UNKNOWN;
             } else if (first == second) {
@@ -1230,7 +1225,7 @@ public final class ChairMigration {
             }
         }
 
-        private void examineOldPath(int first, int second) {
+        private void examineOldPath(Garden garden, int first, int second) {
             if (!isLawn(first) || !isLawn(second)) {
                 verdict = UNKNOWN;
             } else if (first == second) {
@@ -1248,25 +1243,25 @@ public final class ChairMigration {
             }
         }
 
-        private void examineNewChair(int lawn, int rust) {
+        private void examineNewChair(Garden garden, int lawn, int rust) {
             if (!isLawn(lawn)) {
                 verdict = UNKNOWN;
             } else if (rust < 0 || rust > MOST_RUST) {
                 verdict = UNFIT;
             } else if (garden.chairCount >= MOST_CHAIRS) {
                 reject(CHAIR_LIMIT, MOST_CHAIRS);
-            } else if (isFull(lawn)) {
+            } else if (isFull(garden, lawn)) {
                 reject(LAWN_FULL, lawn);
             }
         }
 
-        private void examineScrapping(int id) {
+        private void examineScrapping(Garden garden, int id) {
             if (garden.find(id) == null) {
                 verdict = UNKNOWN;
             }
         }
 
-        private void examineFolding(int id) {
+        private void examineFolding(Garden garden, int id) {
             Chair chair = garden.find(id);
             if (chair == null) {
                 verdict = UNKNOWN;
@@ -1275,7 +1270,7 @@ public final class ChairMigration {
             }
         }
 
-        private void examineUnfolding(int id) {
+        private void examineUnfolding(Garden garden, int id) {
             Chair chair = garden.find(id);
             if (chair == null) {
                 verdict = UNKNOWN;
@@ -1284,7 +1279,7 @@ public final class ChairMigration {
             }
         }
 
-        private void examineOiling(int id) {
+        private void examineOiling(Garden garden, int id) {
             Chair chair = garden.find(id);
             if (chair == null) {
                 verdict = UNKNOWN;
@@ -1295,7 +1290,7 @@ public final class ChairMigration {
             }
         }
 
-        private void examineMove(int id, int lawn) {
+        private void examineMove(Garden garden, int id, int lawn) {
             Chair chair = garden.find(id);
             if (chair == null || !isLawn(lawn)) {
                 verdict = UNKNOWN;
@@ -1303,24 +1298,24 @@ public final class ChairMigration {
                 reject(FOLDED, id);
             } else if (!garden.paths.areNeighbours(chair.lawn, lawn)) {
                 reject(NO_PATH, garden.paths.stepsBetween(chair.lawn, lawn));
-            } else if (isFull(lawn)) {
+            } else if (isFull(garden, lawn)) {
                 reject(LAWN_FULL, lawn);
             }
         }
 
-        private void examineMigration(int from, int to) {
+        private void examineMigration(Garden garden, int from, int to) {
             if (!isLawn(from) || !isLawn(to)) {
                 verdict = UNKNOWN;
             } else if (!garden.paths.areNeighbours(from, to)) {
                 reject(NO_PATH, garden.paths.stepsBetween(from, to));
             } else if (garden.countGrazingOn(from) == 0) {
                 reject(NO_HERD, garden.herdSizes.at(from));
-            } else if (isFull(to)) {
+            } else if (isFull(garden, to)) {
                 reject(LAWN_FULL, to);
             }
         }
 
-        private void examineNewOil(int units) {
+        private void examineNewOil(Garden garden, int units) {
             if (units < 1 || units > MOST_OIL_AT_ONCE) {
                 verdict = UNFIT;
             } else if (garden.oil + units > MOST_OIL) {
