@@ -943,6 +943,7 @@ public final class ModelTest {
     }
 
     public static void main(String[] args) throws ReflectiveOperationException {
+        Checks.limitTime();
         int failed = 0;
         for (int seed = 0; seed < RUNS && failed < 3; seed++) {
             ModelTest test = new ModelTest(seed);
