@@ -1,6 +1,7 @@
 import java.io.IOException;
 import java.lang.reflect.Constructor;
 import java.lang.reflect.Field;
+import java.lang.reflect.InvocationTargetException;
 import java.lang.reflect.Member;
 import java.lang.reflect.Method;
 import java.lang.reflect.Modifier;
@@ -8,6 +9,7 @@ import java.nio.charset.StandardCharsets;
 import java.nio.file.Files;
 import java.nio.file.Path;
 import java.util.ArrayList;
+import java.util.Arrays;
 import java.util.List;
 import java.util.TreeSet;
 import java.util.regex.Pattern;
@@ -129,10 +131,77 @@ public final class FaceTest {
         }
     }
 
+    private static void checkSizes() {
+        List<Class<?>> classes = new ArrayList<>(List.of(ChairMigration.class.getDeclaredClasses()));
+        classes.add(ChairMigration.class);
+        if (classes.size() > 12) {
+            fault("more than twelve classes: " + classes.size());
+        }
+        for (Class<?> some : classes) {
+            int fields = 0;
+            for (Field field : some.getDeclaredFields()) {
+                fields += Modifier.isStatic(field.getModifiers()) ? 0 : 1;
+            }
+            if (fields > 20) {
+                fault(some + " has more than twenty fields: " + fields);
+            }
+            for (Method method : some.getDeclaredMethods()) {
+                if (method.getParameterCount() > 7) {
+                    fault(method + " takes more than seven parameters");
+                }
+            }
+        }
+    }
+
+    private static ChairMigration inUse() {
+        ChairMigration x = new ChairMigration();
+        x.addPath(0, 5);
+        x.addPath(5, 1);
+        for (int chair = 0; chair < 12; chair++) {
+            x.addChair(chair % 3, 9 - chair % 3);
+        }
+        x.fold(4);
+        x.passDays(1);
+        x.writeLawn(0);
+        x.saveSnapshot();
+        return x;
+    }
+
+    /** Whatever the arguments are, a call answers or throws the very class of one of the exceptions of its method. */
+    private static void callWithEveryArgument() throws IllegalAccessException {
+        int[] values = {0, 1, 5, 6, 11, 12, 20, 21, 60, 64, -1, Integer.MIN_VALUE, Integer.MAX_VALUE};
+        for (Method method : ChairMigration.class.getDeclaredMethods()) {
+            int count = method.getParameterCount();
+            for (int number = 0; isShown(method) && number < Math.pow(values.length, count); number++) {
+                Object[] arguments = new Object[count];
+                for (int i = 0, rest = number; i < count; i++, rest /= values.length) {
+                    int value = values[rest % values.length];
+                    arguments[i] = method.getParameterTypes()[i] == char.class ? (Object) (char) value : (Object) value;
+                }
+                call(method, new ChairMigration(), arguments);
+                call(method, inUse(), arguments);
+            }
+        }
+    }
+
+    private static void call(Method method, ChairMigration x, Object[] arguments) throws IllegalAccessException {
+        try {
+            method.invoke(x, arguments);
+        } catch (InvocationTargetException e) {
+            Class<?> thrown = e.getCause().getClass();
+            if (!List.of(method.getExceptionTypes()).contains(thrown)) {
+                fault(method.getName() + Arrays.toString(arguments) + " throws " + thrown);
+            }
+        }
+    }
+
     public static void main(String[] args) throws IOException, IllegalAccessException {
+        Checks.limitTime();
         compareFaces();
         checkPrivateNames();
         checkSource();
+        checkSizes();
+        callWithEveryArgument();
         System.out.println(wrong == 0 ? "the face is as documented" : wrong + " faults of the face");
         if (wrong != 0) {
             System.exit(1);

@@ -1,3 +1,5 @@
+import java.util.Arrays;
+
 /** For each promise of the document its ordinary answers, its named edges and its wrong inputs. */
 public final class PromisesTest extends Checks {
     private static void promise1() {
@@ -774,31 +776,34 @@ public final class PromisesTest extends Checks {
         due(0, x.pathCount());
         due(1, x.scrappedChairs());
 
-        String before = data(x);
-        dueThrow(BAD_ARGUMENT, () -> run(x, ""));
-        for (String bad : new String[] {"p00", "p06", "p60", "q11", "q90", "h6=1", "h0=21", "h0=99", "c60", "s99", "f77",
-            "u50", "o50", "m50>0", "g6>0", "g0>6", "a0", "a11", "a00", "d0", "d21", "p01;c01;h1=3;p22"}) {
-            type(x, bad);
-            dueThrow(BAD_STATE, () -> x.execute());
-            due(before, data(x));
-        }
-        dueThrow(NO_ELEMENT, () -> x.rejectionReason());
-        type(x, "p01;c01;d3;q02;p77");
-        dueThrow(REJECTED, () -> x.execute());
-        due(before, data(x));
-        type(x, "p01;c01;d3;p77;q02");
-        dueThrow(BAD_STATE, () -> x.execute());
-        due(before, data(x));
-        due(1, x.appendInput('d'));
-        type(x, "1;s0;z");
-        dueThrow(BAD_ARGUMENT, () -> x.execute());
-        due(before, data(x));
         due(20, run(x, "d1;d1;d1;d1;d1;d1;d1;d1;d1;d1;d1;d1;d1;d1;d1;d1;d1;d1;d1;d1"));
         due(40, x.day());
-        due(true, x.undo() >= 4);
-        due(before, data(x));
-        dueThrow(BAD_ARGUMENT, () -> x.execute());
+        due(4, x.undo());
+        due(20, x.day());
+    }
 
+    private static void commandsThatFail() {
+        for (String bad : new String[] {"p00", "p06", "p60", "q11", "q90", "h6=1", "h0=21", "h0=99", "c60", "s99", "f77",
+            "u50", "o50", "m50>0", "g6>0", "g0>6", "a0", "a11", "a00", "d0", "d21", "p01;c01;h1=3;p22",
+            "p01;c01;d3;p77;q02"}) {
+            ChairMigration x = dueNothingDone(BAD_STATE, bad);
+            dueThrow(NO_ELEMENT, () -> x.rejectionReason());
+        }
+        dueNothingDone(REJECTED, "p01;c01;d3;q02;p77");
+        dueNothingDone(BAD_ARGUMENT, "");
+        ChairMigration x = dueNothingDone(BAD_ARGUMENT, "d1;s0;z");
+        due(1, x.appendInput('d'));
+        due(2, x.appendInput('1'));
+        due(1, x.execute());
+    }
+
+    private static ChairMigration dueNothingDone(Class<?> want, String commands) {
+        ChairMigration x = after("c09;c52;f1;h3=7;p05;m0>5;d3");
+        String before = data(x);
+        type(x, commands);
+        dueThrow(want, () -> x.execute());
+        due(before, data(x));
+        return x;
     }
 
     private static void commandsThatAreRejected() {
@@ -920,17 +925,20 @@ public final class PromisesTest extends Checks {
         ChairMigration x = new ChairMigration();
         dueThrow(BAD_STATE, () -> x.undo());
         String[] changes = {"p01", "h0=3", "c05", "c16", "f0", "u0", "m0>1", "g1>0", "o1", "a5", "d9", "s0", "q01"};
-        String[] before = new String[changes.length];
-        for (int i = 0; i < changes.length; i++) {
-            before[i] = data(x);
-            run(x, changes[i]);
+        for (int undone = 1; undone <= 8; undone++) {
+            ChairMigration some = after(changes);
+            for (int i = 1; i <= undone; i++) {
+                due(8 - i, some.undo());
+            }
+            due(data(after(Arrays.copyOf(changes, changes.length - undone))), data(some));
         }
-        for (int i = 1; i <= 8; i++) {
-            due(8 - i, x.undo());
-            due(before[changes.length - i], data(x));
+        for (String change : changes) {
+            run(x, change);
+        }
+        for (int i = 0; i < 8; i++) {
+            x.undo();
         }
         dueThrow(BAD_STATE, () -> x.undo());
-        due(before[changes.length - 8], data(x));
     }
 
     /** Every kind of change counts as one, also one after which nothing is different. */
@@ -1064,6 +1072,7 @@ public final class PromisesTest extends Checks {
         test("promises 52 and 53", PromisesTest::promises52And53);
         test("promise 54", PromisesTest::promise54);
         test("promise 55", PromisesTest::promise55);
+        test("promise 55, commands that fail", PromisesTest::commandsThatFail);
         test("promise 55, rejected commands", PromisesTest::commandsThatAreRejected);
         test("promise 56", PromisesTest::promise56);
         test("promise 56, every command", PromisesTest::syntaxErrorsOfEveryCommand);

@@ -3,6 +3,10 @@ final class HerdEdges extends Edges {
     private static final String NO_LAWN = "Throws `IndexOutOfBoundsException` if there is no such lawn";
     private static final String LAWN = "`lawn`: the index of a lawn, 0 to 5";
 
+    private interface Count {
+        int of(ChairMigration x, int lawn);
+    }
+
     static void all() {
         herdSize();
         herdSizeByChairs();
@@ -14,59 +18,42 @@ final class HerdEdges extends Edges {
 
     private static void herdSize() {
         part("herdSize");
-        says("Returns the number of chairs in the herd of a lawn.", () -> {
-            ChairMigration x = after("p01;c00;c00;c10;f0");
-            due(2, x.herdSize(0));
-            x.moveChair(1, 1);
-            due(1, x.herdSize(0));
-            due(2, x.herdSize(1));
-        });
-        says(LAWN, () -> {
-            ChairMigration x = after("c00;c10;c10;c20;c20;c20;c50;c50;c50;c50");
-            eachLawn(lawn -> x.herdSize(lawn), 1, 2, 3, 0, 0, 4);
-        });
-        says("Returns the number of chairs.", () -> {
-            ChairMigration x = new ChairMigration();
-            for (int chairs = 0; chairs < 5; chairs++) {
-                due(chairs, x.herdSize(3));
-                x.addChair(3, 9);
-            }
-            due(5, x.herdSize(3));
-            run(x, "h3=2;d1");
-            due(2, x.herdSize(3));
-            run(x, "s0;s1");
-            due(0, x.herdSize(3));
-        });
-        says(NO_LAWN, () -> noLawn(no -> full().herdSize(no)));
+        bothWays("Returns the number of chairs in the herd of a lawn.", "Returns the number of chairs.",
+            (x, lawn) -> x.herdSize(lawn));
     }
 
     private static void herdSizeByChairs() {
         part("herdSizeByChairs");
-        says("Returns the number of chairs in the herd of a lawn in a second way: by asking all chairs for their lawns.",
-            () -> {
-                ChairMigration x = after("p01;c00;c00;c10;f0");
-                due(2, x.herdSizeByChairs(0));
-                x.moveChair(1, 1);
-                due(1, x.herdSizeByChairs(0));
-                due(2, x.herdSizeByChairs(1));
-            });
+        bothWays("Returns the number of chairs in the herd of a lawn in a second way: by asking all chairs for their lawns.",
+            "Returns the same number.", (x, lawn) -> x.herdSizeByChairs(lawn));
+    }
+
+    /** What the document says alike of both ways to count a herd. */
+    private static void bothWays(String sentence, String answer, Count way) {
+        says(sentence, () -> {
+            ChairMigration x = after("p01;c00;c00;c10;f0");
+            due(2, way.of(x, 0));
+            x.moveChair(1, 1);
+            due(1, way.of(x, 0));
+            due(2, way.of(x, 1));
+        });
         says(LAWN, () -> {
             ChairMigration x = after("c00;c10;c10;c20;c20;c20;c50;c50;c50;c50");
-            eachLawn(lawn -> x.herdSizeByChairs(lawn), 1, 2, 3, 0, 0, 4);
+            eachLawn(lawn -> way.of(x, lawn), 1, 2, 3, 0, 0, 4);
         });
-        says("Returns the same number.", () -> {
+        says(answer, () -> {
             ChairMigration x = new ChairMigration();
             for (int chairs = 0; chairs < 5; chairs++) {
-                due(chairs, x.herdSizeByChairs(3));
+                due(chairs, way.of(x, 3));
                 x.addChair(3, 9);
             }
-            due(5, x.herdSizeByChairs(3));
+            due(5, way.of(x, 3));
             run(x, "h3=2;d1");
-            due(2, x.herdSizeByChairs(3));
+            due(2, way.of(x, 3));
             run(x, "s0;s1");
-            due(0, x.herdSizeByChairs(3));
+            due(0, way.of(x, 3));
         });
-        says(NO_LAWN, () -> noLawn(no -> full().herdSizeByChairs(no)));
+        says(NO_LAWN, () -> noLawn(no -> way.of(full(), no)));
     }
 
     private static void chairAt() {

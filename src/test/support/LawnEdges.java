@@ -9,6 +9,10 @@ final class LawnEdges extends Edges {
     private static final String SECOND = "`second`: the index of the other lawn";
     private static final String LAWN = "`lawn`: the index of a lawn, 0 to 5";
 
+    private interface Distance {
+        int of(ChairMigration x, int first, int second);
+    }
+
     static void all() {
         newObject();
         addPath();
@@ -222,36 +226,7 @@ final class LawnEdges extends Edges {
             x.addPath(5, 0);
             eachLawn(lawn -> x.distance(0, lawn), 0, 1, 2, 3, 2, 1);
         });
-        says(FIRST, () -> {
-            ChairMigration x = chain();
-            eachLawn(first -> x.distance(first, 2), 2, 1, 0, 1, 2, 3);
-        });
-        says(SECOND, () -> {
-            ChairMigration x = chain();
-            eachLawn(second -> x.distance(4, second), 4, 3, 2, 1, 0, 1);
-        });
-        says("Returns the distance.", () -> {
-            ChairMigration x = after("p05;p51;p14;p04");
-            due(0, x.distance(0, 0));
-            due(1, x.distance(4, 0));
-            due(2, x.distance(0, 1));
-            x.removePath(0, 4);
-            due(3, x.distance(0, 4));
-        });
-        says(NO_LAWN_OF_BOTH, () -> {
-            ChairMigration x = chain();
-            noLawn(no -> x.distance(no, 0));
-            noLawn(no -> x.distance(5, no));
-            noLawn(no -> x.distance(no, no));
-        });
-        says(NOT_REACHED, () -> {
-            ChairMigration x = after("p01;p23;p34;p45");
-            dueThrow(NO_ELEMENT, () -> x.distance(1, 2));
-            dueThrow(NO_ELEMENT, () -> x.distance(5, 0));
-            due(3, x.distance(5, 2));
-            x.addPath(1, 2);
-            due(5, x.distance(5, 0));
-        });
+        bothWays("Returns the distance.", (x, first, second) -> x.distance(first, second));
     }
 
     private static void distanceByImprovement() {
@@ -263,35 +238,40 @@ final class LawnEdges extends Edges {
                 eachLawn(lawn -> x.distanceByImprovement(0, lawn), 0, 3, 5, 2, 4, 1);
                 eachLawn(lawn -> x.distanceByImprovement(lawn, 2), 5, 2, 0, 3, 1, 4);
             });
+        bothWays("Returns the same distance.", (x, first, second) -> x.distanceByImprovement(first, second));
+    }
+
+    /** What the document says alike of both ways to find a distance. */
+    private static void bothWays(String answer, Distance way) {
         says(FIRST, () -> {
             ChairMigration x = chain();
-            eachLawn(first -> x.distanceByImprovement(first, 2), 2, 1, 0, 1, 2, 3);
+            eachLawn(first -> way.of(x, first, 2), 2, 1, 0, 1, 2, 3);
         });
         says(SECOND, () -> {
             ChairMigration x = chain();
-            eachLawn(second -> x.distanceByImprovement(4, second), 4, 3, 2, 1, 0, 1);
+            eachLawn(second -> way.of(x, 4, second), 4, 3, 2, 1, 0, 1);
         });
-        says("Returns the same distance.", () -> {
+        says(answer, () -> {
             ChairMigration x = after("p05;p51;p14;p04");
-            due(0, x.distanceByImprovement(0, 0));
-            due(1, x.distanceByImprovement(4, 0));
-            due(2, x.distanceByImprovement(0, 1));
+            due(0, way.of(x, 0, 0));
+            due(1, way.of(x, 4, 0));
+            due(2, way.of(x, 0, 1));
             x.removePath(0, 4);
-            due(3, x.distanceByImprovement(0, 4));
+            due(3, way.of(x, 0, 4));
         });
         says(NO_LAWN_OF_BOTH, () -> {
             ChairMigration x = chain();
-            noLawn(no -> x.distanceByImprovement(no, 0));
-            noLawn(no -> x.distanceByImprovement(5, no));
-            noLawn(no -> x.distanceByImprovement(no, no));
+            noLawn(no -> way.of(x, no, 0));
+            noLawn(no -> way.of(x, 5, no));
+            noLawn(no -> way.of(x, no, no));
         });
         says(NOT_REACHED, () -> {
             ChairMigration x = after("p01;p23;p34;p45");
-            dueThrow(NO_ELEMENT, () -> x.distanceByImprovement(1, 2));
-            dueThrow(NO_ELEMENT, () -> x.distanceByImprovement(5, 0));
-            due(3, x.distanceByImprovement(5, 2));
+            dueThrow(NO_ELEMENT, () -> way.of(x, 1, 2));
+            dueThrow(NO_ELEMENT, () -> way.of(x, 5, 0));
+            due(3, way.of(x, 5, 2));
             x.addPath(1, 2);
-            due(5, x.distanceByImprovement(5, 0));
+            due(5, way.of(x, 5, 0));
         });
     }
 

@@ -77,37 +77,30 @@ final class TotalEdges extends Edges {
 
     private static void totalRust() {
         part("totalRust");
-        says("Returns the sum of the rust of all chairs, in the order of their ids.", () -> {
-            ChairMigration x = after("c01;c12;c24;f1");
-            due(7, x.totalRust());
-            run(x, "s2;h0=0;d1;o1");
-            due(2, x.totalRust());
-        });
-        says("Returns the sum.", () -> {
-            ChairMigration x = new ChairMigration();
-            due(0, x.totalRust());
-            for (int chair = 0; chair < 12; chair++) {
-                x.addChair(chair / 5, 9);
-            }
-            due(108, x.totalRust());
-        });
+        bothWays("Returns the sum of the rust of all chairs, in the order of their ids.", "Returns the sum.",
+            x -> x.totalRust());
     }
 
     private static void totalRustByHerds() {
         part("totalRustByHerds");
-        says("Returns the same sum in a second way: herd by herd.", () -> {
+        bothWays("Returns the same sum in a second way: herd by herd.", "Returns the same sum.", x -> x.totalRustByHerds());
+    }
+
+    /** What the document says alike of both ways to sum up the rust. */
+    private static void bothWays(String sentence, String answer, CallOf way) {
+        says(sentence, () -> {
             ChairMigration x = after("c01;c12;c24;f1");
-            due(7, x.totalRustByHerds());
+            due(7, way.of(x));
             run(x, "s2;h0=0;d1;o1");
-            due(2, x.totalRustByHerds());
+            due(2, way.of(x));
         });
-        says("Returns the same sum.", () -> {
+        says(answer, () -> {
             ChairMigration x = new ChairMigration();
-            due(0, x.totalRustByHerds());
+            due(0, way.of(x));
             for (int chair = 0; chair < 12; chair++) {
                 x.addChair(5 - chair / 5, 9);
             }
-            due(108, x.totalRustByHerds());
+            due(108, way.of(x));
         });
     }
 
