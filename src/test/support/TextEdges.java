@@ -66,6 +66,13 @@ final class TextEdges extends Edges {
             }
             x.addChair(3, 7);
             dueOutput(x, 3, "3:5 100r7");
+            x.scrapChair(100);
+            run(x, "h3=20;c39;c39;c39;c39;c39");
+            for (int chair = 101; chair <= 105; chair++) {
+                x.fold(chair);
+            }
+            due(39, x.writeLawn(3));
+            due("3:20 101r9f 102r9f 103r9f 104r9f 105r9f", output(x));
         });
     }
 
