@@ -5,6 +5,7 @@ public final class EdgesTest {
 
     public static void main(String[] args) {
         Checks.limitTime();
+        UseEdges.all();
         TermEdges.all();
         CommandEdges.all();
         ChangeEdges.all();

@@ -10,7 +10,7 @@ import java.util.Set;
 import java.util.regex.Matcher;
 import java.util.regex.Pattern;
 
-/** The document's sentences by the part that says them: "Terms", a reason's name, or what a promise is about. */
+/** The document's sentences by the part that says them: its chapter, a reason's name, or what a promise is about. */
 final class Document {
     private static final Pattern REASON = Pattern.compile("(?:The constants: )?`(([A-Z_]+) = \\d+)`: (.*)");
 
@@ -20,7 +20,11 @@ final class Document {
         for (String chapter : read().split("(?m)^## ")) {
             String title = chapter.substring(0, chapter.indexOf('\n'));
             String body = chapter.substring(title.length());
-            if (title.equals("Terms")) {
+            if (title.equals("What it is")) {
+                for (String paragraph : body.split("\n\\s*\n")) {
+                    keep(title, plain(paragraph));
+                }
+            } else if (title.equals("Terms")) {
                 readTerms(body);
             } else if (title.startsWith("Promise ")) {
                 String name = title.substring(title.indexOf(": ") + 2);
