@@ -128,6 +128,26 @@ public final class FaceTest {
                     fault("line " + number + " has " + some + ": " + line.trim());
                 }
             }
+            checkMaking(number, line);
+        }
+    }
+
+    /** But for the exceptions that they throw, calls make no objects: all of them are made along with the garden. */
+    private static void checkMaking(int number, String line) {
+        String code = line.replaceFirst("(//|/\\*|^ *\\*).*", "");
+        boolean allowed = code.contains(" throw new ") || code.matches(" +private final \\S+ \\w+ = new .*")
+            || code.matches(" +(chairs|past)\\[index\\] = new .*");
+        if (!allowed && Pattern.compile("\\bnew\\b").matcher(code).find()) {
+            fault("line " + number + " makes an object: " + line.trim());
+        }
+    }
+
+    private static void checkStaticFields(Class<?> some) {
+        for (Field field : some.getDeclaredFields()) {
+            boolean plain = field.getType().isPrimitive() || field.getType() == String.class;
+            if (Modifier.isStatic(field.getModifiers()) && !(Modifier.isFinal(field.getModifiers()) && plain)) {
+                fault(field + " is static, but no constant");
+            }
         }
     }
 
@@ -138,6 +158,7 @@ public final class FaceTest {
             fault("more than twelve classes: " + classes.size());
         }
         for (Class<?> some : classes) {
+            checkStaticFields(some);
             int fields = 0;
             for (Field field : some.getDeclaredFields()) {
                 fields += Modifier.isStatic(field.getModifiers()) ? 0 : 1;
